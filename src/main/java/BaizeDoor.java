@@ -918,6 +918,10 @@ public final class BaizeDoor {
         }
 
         void practise(Player one) {
+            // Nothing can be added, and the rule, which may be long, needn't be asked.
+            if (one.skill >= SKILL_MOST) {
+                return;
+            }
             int more = 5 - one.sore / 2;
             if (rule.isTold) {
                 values[Rule.SKILL] = one.skill;

@@ -305,6 +305,11 @@ public final class ActsTest {
         Desk.due("restore again", x.restore() ? 1 : 0, 1);
         row("restored again: count", counts(x), then);
         Desk.due("what was seen", x.been(2), 0);
+        x.forget();
+        x.see(0, 20, 3);
+        Desk.due("something else", x.been(2), 1);
+        x.restore();
+        Desk.due("what was seen", x.been(2), 0);
         x.weeks(3);
         x.image();
         x.weeks(3);

@@ -84,6 +84,7 @@ public final class AheadTest {
 
     private static void stuck() {
         Desk.due("nobody is stuck", Desk.told(THREE).stuck(), 0);
+        Desk.due("the first one is", Desk.told("piece 9;pupil 0 0 0;learns 0;").stuck(), 1);
         BaizeDoor x = Desk.told("piece 60;piece 61;piece 5;pupil 0 0 0;pupil 0 0 1;pupil 0 0 2;pupil 0 0 1;learns 1;");
         Desk.due("stuck", x.stuck(), 10);
         x.weeks(1);
@@ -175,6 +176,9 @@ public final class AheadTest {
         Desk.due("only next week", z.free(0), 1);
         Desk.due("away in the one that counts", z.toBeDone(0, 1), -1);
         Desk.due("behind two", z.toBeDone(0, 2), 0);
+        BaizeDoor a = Desk.told("piece 20;pupil 0 0 0;pupil 9 0 0;pianos 1;learns sore*10;");
+        for (int k = 2; k <= 30; k++) a.door(1, k);
+        Desk.due("sore by going to the only week", a.toBeDone(0, 2), 1);
     }
 
     private static void fits() {
@@ -227,6 +231,7 @@ public final class AheadTest {
     private static void hardest() {
         Desk.due("hardest of three", Desk.told(THREE).hardest(), 1);
         Desk.due("of like ones the least", Desk.told("piece 5 7 1;piece 7;piece 6 6;").hardest(), 0);
+        Desk.due("the easiest", Desk.told("piece 1;").hardest(), 0);
         Desk.due("the last", Desk.told("piece 5 7 1;piece 7;piece 6 99;").hardest(), 2);
     }
 

@@ -127,6 +127,11 @@ public final class GuessTest {
         BaizeDoor z = Desk.told("study 20 40;pupil 0 0 0;pupil 0 0 0;pianos 1;learns 20*sore;");
         Desk.due("even sore alone is better", z.game(0, 1, 1), 11);
         Desk.due("one couple", z.game(0, 1, 0), 1);
+        String two = "piece 20;piece 99;pupil 0 0 1;pupil 0 0 0;pianos 1;learns 20*(sore=3)+2*(sore=0);";
+        BaizeDoor a = Desk.told(two);
+        Desk.due("2 more sore, not 3: all but where the other one goes", a.game(0, 1, 0), 2);
+        Desk.due("the first", a.game(0, 1, 1), 0);
+        Desk.due("all but where the first one goes", a.game(1, 0, 0), 2);
     }
 
     private static void gameOfThoseWhoCannot() {
@@ -160,6 +165,18 @@ public final class GuessTest {
         Desk.illegal("years(1, 61, 0)", () -> x.years(1, 61, 0));
         Desk.illegal("years(1, -1, 2)", () -> x.years(1, -1, 2));
         Desk.due("60 weeks", x.years(-1, 60, 2), 198);
+        BaizeDoor y = Desk.told("piece 90;pupil 0 0 0;pupil 0 6 0;learns sore;");
+        Desk.due("seed 6: pupil 1 has 9", y.years(6, 1, 2), 9);
+        Desk.due("seed 11: pupil 0 has 3", y.years(11, 1, 2), 9);
+        Desk.due("seed 3: pupil 1 has 3", y.years(3, 1, 2), 3);
+        y.gloves(1, 4);
+        Desk.due("seed 3: pupil 1 not below 0", y.years(3, 1, 2), 0);
+        y.door(1, 3);
+        y.door(1, 4);
+        y.door(1, 5);
+        Desk.due("sore 8", y.pupil(1, 1), 8);
+        int skill = y.pupil(1, 0);
+        Desk.due("seed 6: 9 at most", y.years(6, 1, 2), skill + 9);
     }
 
     private static void yearsByPieces() {

@@ -134,6 +134,8 @@ public final class TextTest {
         fault("learns or;", 3, 7);
         fault("learns piece;", 3, 7);
         fault("learns skills;", 3, 7);
+        fault("learns z;", 3, 7);
+        fault("learns skillz;", 3, 7);
         fault("learns 1 or;", 1, 11);
         fault("learns 1 or or 2;", 3, 12);
         fault("learns 1 and and;", 3, 13);
@@ -266,6 +268,17 @@ public final class TextTest {
         Desk.due("anew: undo()", x.undo(), -1);
         Desk.due("anew: restore()", x.restore() ? 1 : 0, 0);
         Desk.due("anew: been(0)", x.been(0), 40);
+        x.weeks(3);
+        x.door(0, 5);
+        x.pianos(4);
+        Desk.due("a fault behind much else", Desk.tell(x, "study 1 2 3;piece 4;pupil 1 1 1;pianos 3;learns 9;x"), 1);
+        Desk.due("a third school", Desk.tell(x, "piece 50;pupil 5 2 0;"), 0);
+        int[] third = {1, 1, 2, 0, 0, 0, 5, 0, 0, 0, 2, 1, 1};
+        for (int i = 0; i < third.length; i++) Desk.due("third: count(" + i + ")", x.count(i), third[i]);
+        int[] one = {5, 2, 0, 0, 0, 0, 4};
+        for (int i = 0; i < one.length; i++) Desk.due("third: pupil(0, " + i + ")", x.pupil(0, i), one[i]);
+        Desk.due("third: piece(0, 0)", x.piece(0, 0), 1);
+        Desk.due("third: piece(0, 1)", x.piece(0, 1), 0);
     }
 
     private static void gives(String rule, int due) {
