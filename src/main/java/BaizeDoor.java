@@ -873,7 +873,7 @@ public final class BaizeDoor {
             return piece < 0 || piece >= pieces ? 0 : bars[piece];
         }
 
-        boolean isStudy(int piece) {
+        private boolean isStudy(int piece) {
             return piece >= 0 && piece < pieces && study[piece] == 1;
         }
 
@@ -936,7 +936,7 @@ public final class BaizeDoor {
             one.skill = Math.min(SKILL_MOST, one.skill + all);
         }
 
-        void haveLesson(Player one) {
+        private void haveLesson(Player one) {
             int most = isStudy(one.piece) ? BARS_MOST : 1;
             for (int i = 0; i < most && !isDone(one) && one.skill >= nextHard(one); i++) {
                 one.bars++;
@@ -1028,7 +1028,7 @@ public final class BaizeDoor {
             return top < 1 ? 0 : stack[0];
         }
 
-        static int ofTwo(int operator, int a, int b) {
+        private static int ofTwo(int operator, int a, int b) {
             switch (operator) {
                 case OR: return a != 0 || b != 0 ? 1 : 0;
                 case AND: return a != 0 && b != 0 ? 1 : 0;
@@ -1102,7 +1102,7 @@ public final class BaizeDoor {
             }
         }
 
-        void readLine() {
+        private void readLine() {
             if (isWord("piece") || isWord("study")) {
                 readPiece();
             } else if (isWord("pupil") || isWord("prodigy")) {
@@ -1117,7 +1117,7 @@ public final class BaizeDoor {
             skipSign(';');
         }
 
-        void readPiece() {
+        private void readPiece() {
             int piece = school.pieces;
             if (piece >= PIECES_MOST) {
                 stop(TOO_MUCH);
@@ -1133,7 +1133,7 @@ public final class BaizeDoor {
             school.pieces++;
         }
 
-        void readBar(int piece) {
+        private void readBar(int piece) {
             int i = school.bars[piece];
             if (kind == NUMBER && i >= BARS_MOST) {
                 stop(TOO_MUCH);
@@ -1146,7 +1146,7 @@ public final class BaizeDoor {
             }
         }
 
-        void readPupil() {
+        private void readPupil() {
             int pupil = school.term.pupils;
             if (pupil >= PUPILS_MOST) {
                 stop(TOO_MUCH);
@@ -1166,7 +1166,7 @@ public final class BaizeDoor {
             school.term.pupils++;
         }
 
-        void readPianos() {
+        private void readPianos() {
             if (pianosTold) {
                 stop(SECOND);
                 return;
@@ -1176,7 +1176,7 @@ public final class BaizeDoor {
             school.term.pianos = readNumber(1, PIANOS_MOST);
         }
 
-        void readLearns() {
+        private void readLearns() {
             if (school.rule.isTold) {
                 stop(SECOND);
                 return;
@@ -1187,7 +1187,7 @@ public final class BaizeDoor {
         }
 
         /** One level of an expression that stands within so many others. */
-        void readLevel(int level, int depth) {
+        private void readLevel(int level, int depth) {
             if (depth >= DEPTH_MOST) {
                 stop(kind == NUMBER || kind == WORD || isSign('(') ? TOO_MUCH : WRONG);
                 return;
@@ -1211,7 +1211,7 @@ public final class BaizeDoor {
             }
         }
 
-        int skipNots() {
+        private int skipNots() {
             int nots = 0;
             while (nots < NOTS_MOST && isWord("not")) {
                 advance();
@@ -1223,7 +1223,7 @@ public final class BaizeDoor {
             return nots;
         }
 
-        int operatorHere(int level) {
+        private int operatorHere(int level) {
             switch (level) {
                 case ORS: return isWord("or") ? Rule.OR : NONE;
                 case ANDS: return isWord("and") ? Rule.AND : NONE;
@@ -1234,7 +1234,7 @@ public final class BaizeDoor {
             }
         }
 
-        void readPart(int depth) {
+        private void readPart(int depth) {
             if (kind == NUMBER) {
                 school.rule.add(readNumber(0, NUMBER_MOST));
             } else if (kind == WORD && valueHere() == NONE) {
@@ -1251,7 +1251,7 @@ public final class BaizeDoor {
             }
         }
 
-        int valueHere() {
+        private int valueHere() {
             if (isWord("skill")) {
                 return Rule.SKILL;
             }
@@ -1270,7 +1270,7 @@ public final class BaizeDoor {
             return isWord("away") ? Rule.AWAY : NONE;
         }
 
-        int readNumber(int least, int most) {
+        private int readNumber(int least, int most) {
             if (kind != NUMBER) {
                 stop(WRONG);
                 return 0;
@@ -1284,7 +1284,7 @@ public final class BaizeDoor {
             return told;
         }
 
-        void skipSign(char sign) {
+        private void skipSign(char sign) {
             if (isSign(sign)) {
                 advance();
             } else {
@@ -1293,7 +1293,7 @@ public final class BaizeDoor {
         }
 
         /** Only the first fault counts; behind it no token is any kind that could stand somewhere. */
-        void stop(int why) {
+        private void stop(int why) {
             if (fault == 0) {
                 fault = why;
                 place = start;
@@ -1301,11 +1301,11 @@ public final class BaizeDoor {
             kind = STOPPED;
         }
 
-        boolean isSign(char which) {
+        private boolean isSign(char which) {
             return kind == SIGN && sign == which;
         }
 
-        boolean isWord(String word) {
+        private boolean isWord(String word) {
             if (kind != WORD || end - start != word.length()) {
                 return false;
             }
@@ -1318,7 +1318,7 @@ public final class BaizeDoor {
         }
 
         /** Goes on to the next token. A byte that begins none counts as a sign: no place has room for it. */
-        void advance() {
+        private void advance() {
             if (fault != 0) {
                 return;
             }
@@ -1467,7 +1467,7 @@ public final class BaizeDoor {
             }
         }
 
-        int weeksThatAgree(School school, Seen seen, int pupil) {
+        private int weeksThatAgree(School school, Seen seen, int pupil) {
             int bits = 0;
             for (int w = 1; w <= GUESS_REACH; w++) {
                 if (!school.term.players[pupil].isAwayIn(w) && agrees(school, seen, pupil, w)) {
@@ -1477,7 +1477,7 @@ public final class BaizeDoor {
             return bits;
         }
 
-        void guessAway(School school, int pupil, int week) {
+        private void guessAway(School school, int pupil, int week) {
             guess.become(school.term.players[pupil]);
             if (week > 0) {
                 guess.away |= 1 << (week - 1);
@@ -1485,7 +1485,7 @@ public final class BaizeDoor {
         }
 
         /** Whether all that was seen of a pupil would be so, were one away in that week too (0: in none). */
-        boolean agrees(School school, Seen seen, int pupil, int week) {
+        private boolean agrees(School school, Seen seen, int pupil, int week) {
             guessAway(school, pupil, week);
             int last = seen.lastWeekOf(pupil);
             for (int w = 1; w <= last; w++) {
@@ -1531,7 +1531,7 @@ public final class BaizeDoor {
         }
 
         /** 1 if the skill that a guess leads to wasn't met ahead of it. */
-        int meet(School school, int pupil, int week) {
+        private int meet(School school, int pupil, int week) {
             guessAway(school, pupil, week);
             school.passWeeks(guess, GUESS_REACH);
             int skill = guess.skill;
@@ -1566,7 +1566,7 @@ public final class BaizeDoor {
             }
         }
 
-        int mostOf(int pieces, int pupil, int taken) {
+        private int mostOf(int pieces, int pupil, int taken) {
             int best = most[(pupil + 1) * SETS + taken];
             for (int piece = 0; piece < pieces; piece++) {
                 if ((taken >> piece & 1) == 0) {
@@ -1576,7 +1576,7 @@ public final class BaizeDoor {
             return best;
         }
 
-        int mostWith(int pupil, int piece, int taken) {
+        private int mostWith(int pupil, int piece, int taken) {
             return fit[pupil * PIECES_MOST + piece] + most[(pupil + 1) * SETS + (taken | 1 << piece)];
         }
 
@@ -1594,7 +1594,7 @@ public final class BaizeDoor {
             return chosen;
         }
 
-        int firstOfMost(int pieces, int pupil, int taken) {
+        private int firstOfMost(int pieces, int pupil, int taken) {
             for (int piece = 0; piece < pieces; piece++) {
                 boolean left = (taken >> piece & 1) == 0;
                 if (left && mostWith(pupil, piece, taken) == most[pupil * SETS + taken]) {
@@ -1622,7 +1622,7 @@ public final class BaizeDoor {
             weighSide(school, 1, other, oneLeft && other > pupil);
         }
 
-        void weighSide(School school, int side, int pupil, boolean yields) {
+        private void weighSide(School school, int side, int pupil, boolean yields) {
             Player one = school.term.players[pupil];
             could[side] = school.term.couldGo(one, 1);
             int stay = gainOf(school, one, STAY);
@@ -1633,7 +1633,7 @@ public final class BaizeDoor {
             gains[side * 4 + 3] = yields ? gainOf(school, one, ONLY_SORE) : go;
         }
 
-        int gainOf(School school, Player one, int does) {
+        private int gainOf(School school, Player one, int does) {
             player.become(one);
             if (does == GO) {
                 school.goThrough(player, 1);
@@ -1649,7 +1649,7 @@ public final class BaizeDoor {
         }
 
         /** Whether one side can choose so, and gains no more by the other choice. */
-        boolean isContent(int side, int own, int others) {
+        private boolean isContent(int side, int own, int others) {
             if (!could[side]) {
                 return own == 0;
             }

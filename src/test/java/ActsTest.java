@@ -18,6 +18,7 @@ public final class ActsTest {
         undo();
         onlyFortyAreKept();
         image();
+        imageKeepsWhatIsSeen();
         imageKeepsActs();
         Desk.end();
     }
@@ -317,6 +318,20 @@ public final class ActsTest {
         Desk.due("the later image", x.count(3), 4);
         Desk.tell(x, THREE);
         Desk.due("no image of another school", x.restore() ? 1 : 0, 0);
+    }
+
+    private static void imageKeepsWhatIsSeen() {
+        BaizeDoor x = Desk.told("piece 10 20;pupil 0 0 0;pupil 5 0 0;");
+        x.see(1, 3, 1);
+        x.image();
+        x.forget();
+        x.see(0, 5, 0);
+        x.see(1, 20, 8);
+        x.restore();
+        Desk.due("seen", x.count(8), 1);
+        Desk.due("away in 1, 2 or 3", x.been(0), 3);
+        Desk.due("the first", x.been(1), 101);
+        Desk.due("not without", x.been(2), 0);
     }
 
     private static void imageKeepsActs() {

@@ -59,7 +59,7 @@ public final class ModelTest {
 
     private String text() {
         StringBuilder s = new StringBuilder();
-        int pieces = seldom(20) ? 7 : 1 + upTo(4);
+        int pieces = seldom(30) ? 7 : seldom(8) ? 6 : 1 + upTo(4);
         for (int i = 0; i < pieces; i++) {
             s.append(seldom(2) ? "piece" : "study");
             int bars = seldom(60) ? 9 : 1 + upTo(7);
@@ -67,7 +67,7 @@ public final class ModelTest {
             for (int j = 0; j < bars; j++) s.append(' ').append(Math.max(1, Math.min(99, hard += upTo(24) - 8)));
             s.append(";");
         }
-        int pupils = seldom(30) ? 8 : seldom(15) ? 7 : upTo(5);
+        int pupils = seldom(30) ? 8 : seldom(8) ? 7 : upTo(5);
         for (int i = 0; i < pupils; i++) {
             s.append(seldom(3) ? "prodigy " : "pupil ").append(upTo(seldom(4) ? 99 : 40)).append(' ').append(upTo(9));
             s.append(' ').append(upTo(seldom(40) ? pieces : pieces - 1)).append(";\n");
@@ -98,9 +98,9 @@ public final class ModelTest {
 
     private String play() {
         String wrong = tell();
-        int calls = 20 + upTo(120);
+        int calls = seldom(10) ? 400 : 20 + upTo(120);
         for (int i = 0; i < calls && wrong == null; i++) {
-            wrong = seldom(60) ? tell() : call(upTo(43));
+            wrong = seldom(60) ? tell() : call(upTo(45));
         }
         return wrong;
     }
