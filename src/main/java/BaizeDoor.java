@@ -262,13 +262,19 @@ public final class BaizeDoor {
 
     public int best(int weeks) throws IllegalArgumentException {
         needBetween(weeks, 0, FORESIGHT);
+        return whoHasMost(weeks, false);
+    }
+
+    /** Who has most skill behind so many weeks, or is most sore. */
+    private int whoHasMost(int weeks, boolean ofSore) {
         int who = NONE;
         int most = NONE;
         for (int p = 0; p < school.term.pupils; p++) {
             probe.become(school.term.players[p]);
             school.passWeeks(probe, weeks);
-            if (probe.skill > most) {
-                most = probe.skill;
+            int has = ofSore ? probe.sore : probe.skill;
+            if (has > most) {
+                most = has;
                 who = p;
             }
         }
@@ -468,17 +474,7 @@ public final class BaizeDoor {
 
     public int sorest(int weeks) throws IllegalArgumentException {
         needBetween(weeks, 0, FORESIGHT);
-        int who = NONE;
-        int most = NONE;
-        for (int p = 0; p < school.term.pupils; p++) {
-            probe.become(school.term.players[p]);
-            school.passWeeks(probe, weeks);
-            if (probe.sore > most) {
-                most = probe.sore;
-                who = p;
-            }
-        }
-        return who;
+        return whoHasMost(weeks, true);
     }
 
     public int toGlove(int pupil) throws NoSuchElementException {

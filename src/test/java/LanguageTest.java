@@ -32,10 +32,10 @@ import javax.tools.JavaCompiler;
 import javax.tools.StandardJavaFileManager;
 import javax.tools.ToolProvider;
 
-/** What of LANGUAGE.md can be seen in the source: names, sizes, the library, how deep calls go, that no call keeps making objects. */
+/** What of LANGUAGE.md can be seen in the source: names, sizes, the library, how deep calls go, what is made when. */
 public final class LanguageTest extends TreePathScanner<Void, Void> {
-    private static final Set<String> LIBRARY = Set.of("String.length", "String.charAt", "Math.max", "Math.min", "Math.abs",
-        "Integer.bitCount", "Integer.highestOneBit", "Integer.numberOfTrailingZeros", "System.arraycopy");
+    private static final Set<String> LIBRARY = Set.of("String.length", "String.charAt", "Math.max", "Math.min",
+        "Math.abs", "Integer.bitCount", "Integer.highestOneBit", "Integer.numberOfTrailingZeros", "System.arraycopy");
     private static final Set<String> THROWN = Set.of("IllegalArgumentException", "NoSuchElementException");
 
     private final Trees trees;
@@ -84,7 +84,9 @@ public final class LanguageTest extends TreePathScanner<Void, Void> {
 
     private void sums() {
         must("some twelve classes: " + classes, classes <= 12);
-        for (String name : otherNames) must("no other method bears the public name " + name, !publicNames.contains(name));
+        for (String name : otherNames) {
+            must("no other method bears the public name " + name, !publicNames.contains(name));
+        }
         int deepest = 0;
         for (Element method : calls.keySet()) deepest = Math.max(deepest, depth(method, new HashSet<>()));
         must("calls go at most eight deep, recursion apart: " + deepest, deepest <= 8);
@@ -139,7 +141,8 @@ public final class LanguageTest extends TreePathScanner<Void, Void> {
         classes++;
         Set<Modifier> flags = node.getModifiers().getFlags();
         boolean outer = node.getSimpleName().contentEquals("BaizeDoor");
-        must("class " + node.getSimpleName(), outer || flags.contains(Modifier.STATIC) && flags.contains(Modifier.PRIVATE));
+        boolean hidden = flags.contains(Modifier.STATIC) && flags.contains(Modifier.PRIVATE);
+        must("class " + node.getSimpleName(), outer || hidden);
         int fields = 0;
         for (Tree member : node.getMembers()) {
             if (!(member instanceof VariableTree)) continue;
@@ -159,7 +162,8 @@ public final class LanguageTest extends TreePathScanner<Void, Void> {
         must("some sixty lines: " + node.getName(), to - from < 60);
         must("seven parameters: " + node.getName(), node.getParameters().size() <= 7);
         if (node.getReturnType() != null) {
-            (node.getModifiers().getFlags().contains(Modifier.PUBLIC) ? publicNames : otherNames).add("" + node.getName());
+            boolean open = node.getModifiers().getFlags().contains(Modifier.PUBLIC);
+            (open ? publicNames : otherNames).add("" + node.getName());
         }
         calls.computeIfAbsent(element(node), e -> new HashSet<>());
         return super.visitMethod(node, v);
