@@ -25,13 +25,10 @@ public final class BaizeDoor {
     private static final int REFUSED_ACT = 1;
     private static final int REFUSED_SEEN = 2;
 
-    private final byte[] tape = new byte[TAPE_MOST];
+    private final Reader reader = new Reader();
     private int fed;
     private int faultPlace = NONE;
     private School school = new School();
-    // A text with a fault must change nothing, so each is read into a school of its own.
-    private School draft = new School();
-    private final Reader reader = new Reader(tape, draft);
     private final Acts acts = new Acts();
     private final Seen seen = new Seen();
     private final int[] status = new int[3];
@@ -62,7 +59,7 @@ public final class BaizeDoor {
 
     private void putFour(int four) {
         for (int shift = 24; shift >= 0 && fed < TAPE_MOST; shift -= 8) {
-            tape[fed] = (byte) (four >>> shift);
+            reader.text[fed] = (byte) (four >>> shift);
             fed++;
         }
     }
@@ -72,15 +69,15 @@ public final class BaizeDoor {
             throw new IllegalArgumentException("the tape has not so many bytes");
         }
         fed = 0;
-        reader.readSchool(n, draft);
+        reader.readSchool(n);
         faultPlace = reader.place;
         if (reader.fault != 0) {
             status[REFUSED_TEXT]++;
             return reader.fault;
         }
         School old = school;
-        school = draft;
-        draft = old;
+        school = reader.school;
+        reader.school = old;
         acts.clear();
         seen.clear();
         image.kept = false;
@@ -1066,9 +1063,11 @@ public final class BaizeDoor {
         static final int DIGITS_MOST = 4;
         static final int NUMBER_MOST = 9999;
 
-        final byte[] text;
+        // The tape.
+        final byte[] text = new byte[TAPE_MOST];
         int length;
-        School school;
+        // A text with a fault must change nothing, so each is read into a school of its own.
+        School school = new School();
         int kind;
         int start;
         int end;
@@ -1078,15 +1077,9 @@ public final class BaizeDoor {
         int place;
         boolean pianosTold;
 
-        Reader(byte[] tape, School first) {
-            text = tape;
-            school = first;
-        }
-
         /** Leaves the fault, or 0, and its place, or NONE. */
-        void readSchool(int size, School into) {
+        void readSchool(int size) {
             length = Math.max(0, Math.min(size, text.length));
-            school = into;
             school.clear();
             end = 0;
             fault = 0;

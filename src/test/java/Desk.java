@@ -3,6 +3,8 @@ import java.util.NoSuchElementException;
 /** What the tests share: telling a school, and saying what is not as due. */
 final class Desk {
     private static int wrong;
+    private static int checks;
+    private static String about = "";
 
     private Desk() {
     }
@@ -11,11 +13,32 @@ final class Desk {
         int answer();
     }
 
+    /** What the next checks are about, ahead of each line that says what is wrong. */
+    static void about(String words) {
+        about = words.isEmpty() ? "" : "[" + words + "] ";
+    }
+
+    static int checks() {
+        return checks;
+    }
+
+    private static void wrong(String call, String got, String want) {
+        wrong++;
+        System.out.println(about + call + " answered " + got + ", due is " + want);
+    }
+
     static void due(String call, long got, long want) {
-        if (got != want) {
-            wrong++;
-            System.out.println(call + " answered " + got + ", due is " + want);
-        }
+        checks++;
+        if (got != want) wrong(call, "" + got, "" + want);
+    }
+
+    static void due(String call, String got, String want) {
+        checks++;
+        if (!got.equals(want)) wrong(call, got, want);
+    }
+
+    static void holds(String what, boolean holds) {
+        due(what, holds ? 1 : 0, 1);
     }
 
     /** The call must throw NoSuchElementException. */
@@ -29,6 +52,7 @@ final class Desk {
     }
 
     private static void thrown(String call, Call c, Class<?> want) {
+        checks++;
         String got;
         try {
             got = "" + c.answer();
@@ -36,8 +60,7 @@ final class Desk {
             if (e.getClass() == want) return;
             got = "throws " + e;
         }
-        wrong++;
-        System.out.println(call + " answered " + got + ", due is throws " + want.getName());
+        wrong(call, got, "throws " + want.getName());
     }
 
     static void feed(BaizeDoor door, String text) {
@@ -60,6 +83,37 @@ final class Desk {
         BaizeDoor door = new BaizeDoor();
         due("school of " + text, tell(door, text), 0);
         return door;
+    }
+
+    /** A new object is told the text: it must have this fault (0: none) at this place (-1: none). */
+    static void fault(String text, int due, int place) {
+        BaizeDoor door = new BaizeDoor();
+        due("school of '" + text + "'", tell(door, text), due);
+        due("fault() of '" + text + "'", door.fault(), place);
+        due("count(10) of '" + text + "'", door.count(10), due == 0 ? 0 : 1);
+        due("count(9) of '" + text + "'", door.count(9), 0);
+        if (due != 0) due("pieces and pupils of '" + text + "'", door.count(0) + door.count(1), 0);
+    }
+
+    static void fine(String text) {
+        fault(text, 0, -1);
+    }
+
+    /** All that can be seen without a change, but for STATUS and the tape. */
+    static String view(BaizeDoor door) {
+        StringBuilder s = new StringBuilder();
+        for (int i = 0; i <= 8; i++) s.append(door.count(i)).append(' ');
+        for (int piece = 0; piece < door.count(0); piece++) {
+            s.append("piece");
+            for (int i = 0; i < 3; i++) s.append(' ').append(door.piece(piece, i));
+            for (int i = 0; i < door.piece(piece, 0); i++) s.append(' ').append(door.bar(piece, i));
+        }
+        for (int p = 0; p < door.count(1); p++) {
+            s.append("; pupil");
+            for (int i = 0; i < 7; i++) s.append(' ').append(door.pupil(p, i));
+        }
+        for (int i = 0; i < 3; i++) s.append("; been ").append(door.been(i));
+        return s.toString();
     }
 
     static void end() {

@@ -2,8 +2,12 @@ import java.lang.reflect.Constructor;
 import java.lang.reflect.Field;
 import java.lang.reflect.Method;
 import java.lang.reflect.Modifier;
+import java.nio.file.Files;
+import java.nio.file.Path;
 import java.util.Set;
 import java.util.TreeSet;
+import java.util.regex.Matcher;
+import java.util.regex.Pattern;
 
 /** The public face, and promise 1: a new object. */
 public final class FaceTest {
@@ -12,8 +16,12 @@ public final class FaceTest {
         + "repertoire/1 choice/1 hardest/0 concert/2 duet/0 next/1 rush/2 sorest/1 toGlove/1 full/1 empty/1 common/2 "
         + "work/1 mates/1 see/3 been/1 listen/1 forget/0 game/3 years/3 image/0 restore/0";
 
-    public static void main(String[] args) {
+    private static final Path DOCUMENT = Path.of("../shared/DOC.md");
+    private static final Pattern HEAD = Pattern.compile("    public (\\w+) (\\w+)\\((.*?)\\)(?: throws (.*?))?;");
+
+    public static void main(String[] args) throws Exception {
         face();
+        if (Files.isReadable(DOCUMENT)) heads();
         newObject();
         Desk.end();
     }
@@ -34,6 +42,30 @@ public final class FaceTest {
         for (Constructor<?> c : BaizeDoor.class.getDeclaredConstructors()) Desk.due("" + c, c.getParameterCount(), 0);
         Desk.due("public and final", BaizeDoor.class.getModifiers(), Modifier.PUBLIC | Modifier.FINAL);
         Desk.due("NONE", BaizeDoor.NONE, -1);
+    }
+
+    /** Every method's types and exceptions, as the document's face has them. */
+    private static void heads() throws Exception {
+        Set<String> due = new TreeSet<>();
+        Matcher m = HEAD.matcher(Files.readString(DOCUMENT));
+        while (m.find()) {
+            String thrown = m.group(4) == null ? "" : m.group(4);
+            due.add(m.group(1) + " " + m.group(2) + "(" + m.group(3).replaceAll(" \\w+(?=,|$)", "") + ") " + thrown);
+        }
+        Set<String> got = new TreeSet<>();
+        for (Method method : BaizeDoor.class.getDeclaredMethods()) {
+            if (!Modifier.isPublic(method.getModifiers())) continue;
+            got.add(method.getReturnType() + " " + method.getName() + "(" + names(method.getParameterTypes()) + ") "
+                + names(method.getExceptionTypes()));
+        }
+        Desk.due("the document's heads", due.size(), FACE.split(" ").length);
+        Desk.due("the heads", String.join("\n", got), String.join("\n", due));
+    }
+
+    private static String names(Class<?>[] types) {
+        StringBuilder s = new StringBuilder();
+        for (Class<?> type : types) s.append(s.length() == 0 ? "" : ", ").append(type.getSimpleName());
+        return s.toString();
     }
 
     private static void newObject() {

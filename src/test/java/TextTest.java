@@ -17,16 +17,11 @@ public final class TextTest {
     }
 
     private static void fault(String text, int due, int place) {
-        BaizeDoor x = new BaizeDoor();
-        Desk.due("school of '" + text + "'", Desk.tell(x, text), due);
-        Desk.due("fault() of '" + text + "'", x.fault(), place);
-        Desk.due("count(10) of '" + text + "'", x.count(10), due == 0 ? 0 : 1);
-        Desk.due("count(9) of '" + text + "'", x.count(9), 0);
-        if (due != 0) Desk.due("count(0) of '" + text + "'", x.count(0) + x.count(1), 0);
+        Desk.fault(text, due, place);
     }
 
     private static void fine(String text) {
-        fault(text, 0, -1);
+        Desk.fine(text);
     }
 
     private static void tape() {
