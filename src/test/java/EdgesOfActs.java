@@ -536,6 +536,13 @@ final class EdgesOfActs {
         for (int i = 0; i < 8; i++) x.see(i % 7, 20 - i, 0);
         x.restore();
         Desk.due("seven pupils", Desk.view(x), before);
+        BaizeDoor y = Desk.told("piece 10 20;pupil 0 0 0;pupil 5 0 0;");
+        y.see(1, 3, 1);
+        y.image();
+        y.forget();
+        y.see(0, 5, 0);
+        y.restore();
+        Desk.due("whom, when and what was seen", y.been(0) * 1000 + y.been(1) * 10 + y.been(2), 4010);
     }
 
     private static void changeAll(BaizeDoor x) {

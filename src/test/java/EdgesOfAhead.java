@@ -573,9 +573,10 @@ final class EdgesOfAhead {
             Desk.due("others between", x.common(3, 5), 4);
         });
         book.edge(36, "COMMON (of one and itself: all).", () -> {
-            BaizeDoor x = Desk.told("piece 9;study 8 7 8 7 8 7 8 7;");
+            BaizeDoor x = Desk.told("piece 9;study 8 7 8 7 8 7 8 7;piece 1 1 1 1 1 1 1 1;");
             Desk.due("one", x.common(0, 0), 1);
             Desk.due("eight", x.common(1, 1), 8);
+            Desk.due("of one and another none", x.common(1, 2), 0);
         });
     }
 

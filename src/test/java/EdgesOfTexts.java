@@ -488,8 +488,9 @@ final class EdgesOfTexts {
         book.edge(3, "all anew: 0", () -> {
             String full = times("study 1 2 3 4 5 6 7 8;", 6) + times("prodigy 9 9 5;", 7)
                 + "pianos 4;learns 1+skill*(2-sore)/3;";
-            String[] texts = {full, full, "study 6;pupil 5 2 0;", "piece 9 1;pupil 5 2 0;", "piece 3;pupil 5 2 0;learns 2;",
-                "piece 3;prodigy 0 9 0;learns 3;", "piece 1 1;piece 4;pupil 9 0 1;", "piece 9;", "", ""};
+            String[] texts = {full, full, "study 6;pupil 5 2 0;", "piece 9 1;pupil 5 2 0;",
+                "piece 3;pupil 5 2 0;learns 1+2+3;", "piece 3;prodigy 0 9 0;learns 3;", "piece 3;pupil 5 2 0;learns not 0;",
+                "piece 1 1;piece 4;pupil 9 0 1;", "piece 9;", "", ""};
             BaizeDoor x = busy();
             for (String text : texts) {
                 Desk.due("another", Desk.tell(x, text), 0);
