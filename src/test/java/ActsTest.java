@@ -4,6 +4,7 @@ public final class ActsTest {
         "piece 10 20 15;study 5 12 30 8;pupil 8 4 0;prodigy 10 0 1;pupil 30 9 0;pianos 1;";
 
     public static void main(String[] args) {
+        Desk.within(120);
         counts();
         pieces();
         pupils();

@@ -116,6 +116,21 @@ final class Desk {
         return s.toString();
     }
 
+    /** A call that doesn't end must fail the test, not hold it up. */
+    static void within(int seconds) {
+        Thread watch = new Thread(() -> {
+            try {
+                Thread.sleep(1000L * seconds);
+            } catch (InterruptedException e) {
+                return;
+            }
+            System.out.println(about + "some call doesn't end");
+            Runtime.getRuntime().halt(1);
+        });
+        watch.setDaemon(true);
+        watch.start();
+    }
+
     static void end() {
         System.out.println(wrong == 0 ? "all answers are as due" : wrong + " answers are not as due");
         if (wrong != 0) System.exit(1);

@@ -4,6 +4,7 @@ public final class EdgesTest {
     }
 
     public static void main(String[] args) {
+        Desk.within(120);
         Book book = new Book();
         EdgesOfTexts.all(book);
         EdgesOfActs.all(book);

@@ -20,6 +20,7 @@ public final class FaceTest {
     private static final Pattern HEAD = Pattern.compile("    public (\\w+) (\\w+)\\((.*?)\\)(?: throws (.*?))?;");
 
     public static void main(String[] args) throws Exception {
+        Desk.within(120);
         face();
         if (Files.isReadable(DOCUMENT)) heads();
         newObject();

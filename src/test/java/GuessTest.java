@@ -4,6 +4,7 @@ public final class GuessTest {
         "piece 35 50;pupil 0 0 0;pupil 0 0 0;pupil 0 0 0;pianos 1;learns 20*(sore=2)*(0<skill)+4*(sore=0);";
 
     public static void main(String[] args) {
+        Desk.within(120);
         see();
         been();
         beenIsRelative();

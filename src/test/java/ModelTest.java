@@ -19,6 +19,7 @@ public final class ModelTest {
 
     public static void main(String[] args) {
         int runs = args.length > 0 ? Integer.parseInt(args[0]) : 1500;
+        Desk.within(120 + runs / 50);
         long first = args.length > 1 ? Long.parseLong(args[1]) : 0;
         for (long seed = first; seed < first + runs; seed++) {
             ModelTest run = new ModelTest(seed);

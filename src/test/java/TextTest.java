@@ -1,6 +1,7 @@
 /** Promises 2 to 4: the tape, a school's text, its faults; and the arithmetic of what one learns. */
 public final class TextTest {
     public static void main(String[] args) {
+        Desk.within(120);
         tape();
         schoolOfTheTape();
         lines();
